@@ -1,12 +1,21 @@
+import java.util.ArrayList;
+import java.util.List;
+import java.util.Map;
 import java.util.Random;
+import java.util.TreeMap;
 
 /** Runs of calls drawn with fixed seeds, asked of the program and of the model, with all that can be seen of both. */
 public final class ModelTest {
     private static final int RUNS = 1000;
-    private static final int CALLS = 160;
+    private static final int CALLS = 240;
+    private static final int MOST_WRONG = 20;
+    private static final String[] OFTEN = {"power", "cut", "cut", "put", "put", "put", "put", "get", "get", "get",
+        "handOver", "handOver", "compare", "compare"};
+    private static final String[] SELDOM = {"token", "token", "remove"};
 
     private final Due due = new Due("ModelTest");
-    private final int[] answers = new int[9];
+    private final Map<String, Integer> met = new TreeMap<>();
+    private final List<Call> questions = questions();
     private Random random;
     private VersionRing ring;
     private Model model;
@@ -16,11 +25,29 @@ public final class ModelTest {
 
     public static void main(String[] args) {
         ModelTest test = new ModelTest();
-        for (int seed = 0; seed < RUNS && test.due.wrongOnes() < 20; seed++) {
+        for (int seed = 0; seed < RUNS && test.due.wrongOnes() < MOST_WRONG; seed++) {
             test.play(seed);
         }
         test.checkThatRunsMeetMuch();
         test.due.end();
+    }
+
+    private static List<Call> questions() {
+        int[] nodes = Call.range(-1, 5);
+        int[] allKeys = Call.range(-1, 32);
+        int[] versions = Call.range(-1, 40);
+        List<Call> calls = new ArrayList<>();
+        calls.addAll(Call.each("versions"));
+        calls.addAll(Call.each("repaired"));
+        calls.addAll(Call.each("found", Call.range(-2, 41)));
+        calls.addAll(Call.each("hints", nodes));
+        calls.addAll(Call.each("holds", nodes, versions));
+        calls.addAll(Call.each("count", nodes, allKeys));
+        calls.addAll(Call.each("targets", nodes, allKeys));
+        calls.addAll(Call.each("context", Call.range(-1, 4), nodes));
+        calls.addAll(Call.each("home", allKeys, Call.range(-1, 3)));
+        calls.addAll(Call.each("version", versions, Call.range(-1, 7)));
+        return calls;
     }
 
     private void play(int seed) {
@@ -33,24 +60,24 @@ public final class ModelTest {
         run = "seed " + seed + " (" + n + ", " + r + ", " + w + ")";
         keys = 1 + random.nextInt(random.nextBoolean() ? 3 : 32);
         wildness = 5 + random.nextInt(60);
-        for (int i = 0; i < 3 + random.nextInt(8); i++) {
-            step(0);
+        int tokens = 3 + random.nextInt(8);
+        for (int i = 0; i < tokens; i++) {
+            step("token");
         }
-        for (int call = 0; call < CALLS && due.wrongOnes() < 20; call++) {
-            step(kindOfCall());
-            if (call % 8 == 0) {
+        for (int call = 0; call < CALLS && due.wrongOnes() < MOST_WRONG; call++) {
+            step(random.nextInt(10) == 0 ? oneOf(SELDOM) : oneOf(OFTEN));
+            if (call % 12 == 0) {
                 compareAll(call);
             }
         }
         compareAll(CALLS);
     }
 
-    private int kindOfCall() {
-        int[] often = {2, 3, 4, 4, 4, 4, 5, 5, 5, 6, 6, 7, 7, 3};
-        int[] seldom = {0, 0, 1};
-        return random.nextInt(10) == 0 ? seldom[random.nextInt(3)] : often[random.nextInt(often.length)];
+    private String oneOf(String[] names) {
+        return names[random.nextInt(names.length)];
     }
 
+    /** A number from 0 on, and now and then the one below it, one in the middle, or the first that is too large. */
     private int number(int end) {
         return random.nextInt(wildness) == 0 ? random.nextInt(3) * (end + 1) / 2 - 1 : random.nextInt(end);
     }
@@ -59,99 +86,56 @@ public final class ModelTest {
         return random.nextInt(wildness) == 0 ? number(32) : (31 * random.nextInt(keys)) & 31;
     }
 
-    private void step(int kind) {
-        int a = number(5);
-        int b = number(5);
-        int key = key();
-        int context = number(4);
-        boolean on = random.nextBoolean();
-        switch (kind) {
-            case 0 -> {
-                int position = number(16);
-                ask("token(" + a + ", " + position + ")", model.token(a, position), ring.token(a, position));
-            }
-            case 1 -> {
-                int position = number(16);
-                ask("remove(" + position + ")", model.remove(position), ring.remove(position));
-            }
-            case 2 -> ask("power(" + a + ", " + on + ")", model.power(a, on), ring.power(a, on));
-            case 3 -> ask("cut(" + a + ", " + b + ", " + on + ")", model.cut(a, b, on), ring.cut(a, b, on));
-            case 4 -> put(a, key, random.nextInt(), on ? context : -1);
-            case 5 -> ask("get(" + a + ", " + key + ", " + context + ")",
-                    model.get(a, key, context), ring.get(a, key, context), 5);
-            case 6 -> ask("handOver(" + a + ")", model.handOver(a), ring.handOver(a), 6);
-            default -> ask("compare(" + a + ", " + b + ")", model.compare(a, b), ring.compare(a, b), 7);
-        }
+    private int bit() {
+        return random.nextInt(2);
     }
 
-    private void put(int c, int key, int value, int context) {
-        ask("put(" + c + ", " + key + ", " + value + ", " + context + ")",
-                model.put(c, key, value, context), ring.put(c, key, value, context), 4);
+    private void step(String name) {
+        ask(switch (name) {
+            case "token" -> new Call(name, number(5), number(16));
+            case "remove" -> new Call(name, number(16));
+            case "power" -> new Call(name, number(5), bit());
+            case "cut" -> new Call(name, number(5), number(5), bit());
+            case "put" -> new Call(name, number(5), key(), random.nextInt(), bit() == 0 ? -1 : number(4));
+            case "get" -> new Call(name, number(5), key(), number(4));
+            case "handOver" -> new Call(name, number(5));
+            default -> new Call(name, number(5), number(5));
+        });
     }
 
-    private void ask(String call, boolean want, boolean got) {
-        due.is(run + " " + call, want ? 1 : 0, got ? 1 : 0);
-    }
-
-    private void ask(String call, int want, int got, int kind) {
-        due.is(run + " " + call, want, got);
+    private void ask(Call call) {
+        int want = call.on(model);
+        due.is(run + " " + call, want, call.on(ring));
         if (want < 0) {
-            answers[-want]++;
+            met.merge(call.name() + " " + want, 1, Integer::sum);
         }
-        if (kind == 5 && want > 1) {
-            answers[5]++;
-        }
-        if (kind == 5 && model.repaired() > 0) {
-            answers[6]++;
-        }
-        if (kind == 6 && want > 0) {
-            answers[7]++;
-        }
-        if (kind == 7 && want > 11) {
-            answers[8]++;
+        noteIf(call.name().equals("get") && want > 1, "get of several");
+        noteIf(call.name().equals("get") && want >= 0 && model.repaired() > 0, "get that repairs");
+        noteIf(call.name().equals("handOver") && want > 0, "handOver of some");
+        noteIf(call.name().equals("compare") && want > 11, "compare of several keys");
+    }
+
+    private void noteIf(boolean so, String what) {
+        if (so) {
+            met.merge(what, 1, Integer::sum);
         }
     }
 
     private void compareAll(int call) {
-        String here = run + " after call " + call + ": ";
-        due.is(here + "versions()", model.versions(), ring.versions());
-        due.is(here + "repaired()", model.repaired(), ring.repaired());
-        for (int k = -2; k < 42; k++) {
-            due.is(here + "found(" + k + ")", model.found(k), ring.found(k));
-        }
-        for (int node = -1; node < 6; node++) {
-            due.is(here + "hints(" + node + ")", model.hints(node), ring.hints(node));
-            for (int version = -1; version < 41; version++) {
-                String ends = "(" + node + ", " + version + ")";
-                due.is(here + "holds" + ends, model.holds(node, version), ring.holds(node, version));
-            }
-            for (int key = -1; key < 33; key++) {
-                String ends = "(" + node + ", " + key + ")";
-                due.is(here + "count" + ends, model.count(node, key), ring.count(node, key));
-                due.is(here + "targets" + ends, model.targets(node, key), ring.targets(node, key));
-            }
-            for (int context = -1; context < 5; context++) {
-                String ends = "(" + context + ", " + node + ")";
-                due.is(here + "context" + ends, model.context(context, node), ring.context(context, node));
-            }
-        }
-        for (int key = -1; key < 33; key++) {
-            for (int k = -1; k < 4; k++) {
-                due.is(here + "home(" + key + ", " + k + ")", model.home(key, k), ring.home(key, k));
-            }
-        }
-        for (int version = -1; version < 41; version++) {
-            for (int what = -1; what < 8; what++) {
-                String ends = "(" + version + ", " + what + ")";
-                due.is(here + "version" + ends, model.version(version, what), ring.version(version, what));
-            }
+        for (Call question : questions) {
+            int want = question.on(model);
+            int got = question.on(ring);
+            due.is(want == got ? "" : run + " after call " + call + ": " + question, want, got);
         }
     }
 
     /** Runs that never came to a refusal, a repair or a hand-over would say nothing about them. */
     private void checkThatRunsMeetMuch() {
-        for (int what = 1; what <= 8; what++) {
-            due.yes("often enough, case " + what + ": " + answers[what], answers[what] > 100);
+        for (String what : List.of("put -1", "put -2", "put -3", "put -4", "get -1", "get -2", "get -3", "handOver -1",
+                "handOver -2", "compare -1", "compare -2", "get of several", "get that repairs", "handOver of some",
+                "compare of several keys")) {
+            int times = met.getOrDefault(what, 0);
+            due.yes("often enough, " + what + ": " + times, times > 100);
         }
     }
 }
