@@ -65,6 +65,7 @@ public final class CallsEdgeTest {
     private void gets() {
         getFindsWhatIsPassedByNoOther();
         getFindsInHints();
+        getFindsAtTargetsAlone();
         getFindsNothing();
         getWritesItsContextAnew();
         getBringsToHomesAlone();
@@ -230,6 +231,13 @@ public final class CallsEdgeTest {
                 due.is("home(" + key + ", 0) without " + position, 1, ring.home(key, 0));
             }
         }
+        VersionRing ring = Rings.five(2, 0, 0);
+        ring.power(0, false);
+        ring.put(1, 0, 10, -1);
+        for (int position = 3; position <= 11; position += 2) {
+            due.yes("remove(" + position + ")", ring.remove(position));
+        }
+        due.holds("versions and hints stay", ring, 0, 0, 1, 1, 2, 0);
     }
 
     private void removeNothing() {
@@ -546,6 +554,19 @@ public final class CallsEdgeTest {
         due.is("hints of other keys are not found", 0, ring.get(0, 16, 1));
     }
 
+    private void getFindsAtTargetsAlone() {
+        due.about("of all versions of the key that the targets of c have");
+        for (int missed = 0; missed <= 4; missed++) {
+            VersionRing ring = Rings.five(2, 0, 0);
+            ring.put(4, 0, 10, -1);
+            due.is("all homes are targets", 1, ring.get(4, 0, 0));
+            for (int node = 0; node < missed; node++) {
+                ring.cut(4, node, true);
+            }
+            due.is("found past " + missed + " nodes", missed < 3 ? 1 : 0, ring.get(4, 0, 0));
+        }
+    }
+
     private void getFindsNothing() {
         due.about("The context gets the key, and the clock whose every count is the greatest among those of the found ones "
                 + "(0 if nothing is found).");
@@ -572,6 +593,8 @@ public final class CallsEdgeTest {
         due.knows("key 0", ring, 0, 3, 1, 0, 0, 0);
         ring.get(0, 31, 0);
         due.knows("key 31, with nothing left of key 0", ring, 0, 0, 0, 0, 0, 1);
+        due.is("put under the former key", -1, ring.put(0, 0, 5, 0));
+        due.is("put under the new key", 5, ring.put(0, 31, 5, 0));
         ring.get(0, 5, 0);
         due.knows("key 5, with nothing left of key 31", ring, 0, 0, 0, 0, 0, 0);
         due.knows("the others stay empty", ring, 1, -1, -1, -1, -1, -1);
@@ -641,6 +664,8 @@ public final class CallsEdgeTest {
                 due.is(reached + " reached, r " + r, reached > r ? 0 : -3, ring.get(4, 0, 0));
                 ring.cut(4, 5 - reached, true);
             }
+            due.is("the node alone, r " + r, r > 0 ? -3 : 0, ring.get(4, 1, 3));
+            due.is("a context that a refused get leaves empty, r " + r, r > 0 ? -1 : 0, ring.context(3, 0));
         }
     }
 

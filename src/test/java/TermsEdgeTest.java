@@ -21,6 +21,7 @@ public final class TermsEdgeTest {
         test.homesAreAllIfFewer();
         test.versionsAreNumberedFrom0();
         test.versionsAre40AtMost();
+        test.lastOf40IsBroughtLikeOthers();
         test.equalCountsAreAtOrBelow();
         test.oneCountAboveIsNotAtOrBelow();
         test.takeNothingBesideNewer();
@@ -289,6 +290,26 @@ public final class TermsEdgeTest {
         due.is("holds(0, 40)", -1, ring.holds(0, 40));
     }
 
+    private void lastOf40IsBroughtLikeOthers() {
+        due.about("VERSIONS are numbered 0, 1, .. as they are made, at most 40.");
+        VersionRing ring = Rings.five(2, 0, 0);
+        for (int i = 0; i < 39; i++) {
+            ring.put(0, 0, i, -1);
+        }
+        Rings.turn(ring, false, 0, 1);
+        due.is("the last put", 39, ring.put(2, 0, 39, -1));
+        due.holds("past homes 0 and 1", ring, 39, 0, 0, 1, 2, 2);
+        Rings.turn(ring, true, 0, 1);
+        due.is("handing over its hint", 1, ring.handOver(3));
+        due.is("comparing", 11, ring.compare(1, 2));
+        due.holds("brought to both", ring, 39, 1, 1, 1, 0, 2);
+        due.is("reading", 2, ring.get(0, 0, 0));
+        due.is("found(1)", 39, ring.found(1));
+        ring.remove(7);
+        due.is("handing over as no home", 2, ring.handOver(2));
+        due.holds("brought to node 3", ring, 39, 1, 1, 0, 1, 2);
+    }
+
     private void equalCountsAreAtOrBelow() {
         due.about("A clock is AT OR BELOW another one if each of its counts is at or below the other's count.");
         for (int first = 0; first < 5; first++) {
@@ -525,5 +546,9 @@ public final class TermsEdgeTest {
         apart.cut(0, 1, false);
         due.is("as many, but others", 11, apart.compare(0, 1));
         due.is("the same two then", 1, apart.compare(1, 0));
+        VersionRing hinted = hinted();
+        hinted.remove(3);
+        due.is("a hint is no version", 11, hinted.compare(1, 3));
+        due.holds("node 3 is a home now, with a hint still", hinted, 0, 0, 1, 1, 3, 0);
     }
 }
